@@ -78,6 +78,7 @@ public final class ForecastTest {
         T.due("of several the lowest one", tilted(101).bestLevel(100, 1), 1);
         T.due("the soonest one", tilted(105).bestLevel(100, 500), 4);
         T.due("in time", tilted(105).bestLevel(100, 1), 4);
+        T.due("sooner by one minute", tilted(105).bestLevel(100, 2), 4);
         T.due("level 3 would be too late", tilted(109).bestLevel(100, 1), -6);
         T.due("3 and 4 take as long", tilted(108).bestLevel(99, 2), 4);
         T.due("never", tilted(105).bestLevel(0, 500), -6);

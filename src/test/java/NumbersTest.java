@@ -207,6 +207,8 @@ public final class NumbersTest {
         T.due("a third is nothing", x.reason(), 7);
         observe(x, 9);
         T.due("behind one more", x.reason(), 5);
+        observe(x, 900, 0, 0, 0);
+        T.due("the fourth one is nothing", x.reason(), 7);
     }
 
     private static void reasonSix() {

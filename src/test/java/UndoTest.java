@@ -18,6 +18,7 @@ public final class UndoTest {
         unchangedStatesCount();
         wrongSlots();
         slots();
+        linesAreRestored();
         everythingIsRestored();
         T.end();
     }
@@ -141,7 +142,9 @@ public final class UndoTest {
         T.due("the pad is not undone", x.state(20), 1);
         T.due("no more", x.undo(), -5);
         same("no more: nothing is different", seen(x), before);
-        T.due("the minutes pass as before", x.pass(100), readyForAll().pass(100));
+        GyroTrainer y = readyForAll();
+        T.due("the minutes pass as before", x.pass(100), y.pass(100));
+        same("it goes on as if nothing had been", seen(x), seen(y));
     }
 
     private static void sixStates() {
@@ -225,6 +228,21 @@ public final class UndoTest {
         x.pass(100);
         T.due("save again", x.save(0), 111);
         T.due("overwritten", x.restore(0), 111);
+    }
+
+    private static void linesAreRestored() {
+        GyroTrainer x = new GyroTrainer();
+        x.set(GyroTrainer.NOISE, 0);
+        x.line(10);
+        x.save(0);
+        x.undo();
+        x.line(20);
+        T.due("the new line", x.observe(0), 20);
+        x.restore(0);
+        T.due("the line that was saved", x.observe(0), 10);
+        x.undo();
+        x.undo();
+        T.due("the new line again", x.observe(0), 20);
     }
 
     private static void everythingIsRestored() {
