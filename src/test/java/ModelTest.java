@@ -5,7 +5,8 @@ public final class ModelTest {
     private static final Due T = new Due();
     private static final int RUNS = 400;
     private static final int TEXT_RUNS = 200;
-    private static final int CALLS = 512;
+    // The looks at the end of a run count, too: 31 of state and 11 of compass.
+    private static final int CALLS = Calls.MOST - 42;
     private static final String[] ACTS = {"set", "start", "place", "line", "steer", "leg", "pass", "pass", "pass",
         "pass", "damp", "correct", "forgetSwings", "observe", "observe", "guess", "put", "put", "put", "wipe",
         "load", "load", "undo", "undo", "save", "restore"};
@@ -33,7 +34,7 @@ public final class ModelTest {
 
     /** Whole texts, most of them with at most one slip. */
     private static void runTexts(int run) {
-        GyroTrainer x = new GyroTrainer();
+        Calls x = new Calls();
         Model model = new Model();
         for (int round = 0; round < 20; round++) {
             String written = slipped(legs(1 + random.nextInt(random.nextInt(4) == 0 ? 11 : 3)));
@@ -86,16 +87,16 @@ public final class ModelTest {
         return number;
     }
 
-    private static void compare(int run, GyroTrainer x, Model model, String name, long... v) {
+    private static void compare(int run, Calls x, Model model, String name, long... v) {
         StringBuilder told = new StringBuilder("run " + run + ": " + name);
         for (long value : v) {
             told.append(' ').append(value);
         }
-        T.due(told.toString(), answer(x, name, v), model.call(name, v));
+        T.due(told.toString(), x.answer(name, v), model.call(name, v));
     }
 
     private static void runOnce(int run) {
-        GyroTrainer x = new GyroTrainer();
+        Calls x = new Calls();
         Model model = new Model();
         // Some runs pass long times (up to the greatest one), the others look around more.
         int longPart = run % 20 == 0 ? 60 : 0;
@@ -190,42 +191,5 @@ public final class ModelTest {
         int kind = random.nextInt(40);
         return kind == 0 ? "" : kind == 1 ? "0" + random.nextInt(10) : kind == 2 ? "" + (most + 1)
             : kind < 10 ? "" + most : "" + (1 + random.nextInt(most));
-    }
-
-    private static long answer(GyroTrainer x, String name, long[] v) {
-        int p = v.length > 0 ? (int) v[0] : 0;
-        int q = v.length > 1 ? (int) v[1] : 0;
-        int r = v.length > 2 ? (int) v[2] : 0;
-        switch (name) {
-            case "set": return x.set(p, q);
-            case "start": return x.start(p, q);
-            case "place": return x.place(p);
-            case "line": return x.line(p);
-            case "steer": return x.steer(p, q);
-            case "leg": return x.leg(p, q, r);
-            case "pass": return x.pass(p);
-            case "damp": return x.damp(p);
-            case "correct": return x.correct(p, q);
-            case "forgetSwings": return x.forgetSwings();
-            case "observe": return x.observe(p);
-            case "guess": return x.guess(p);
-            case "compass": return x.compass(p);
-            case "turn": return x.turn(p, q);
-            case "check": return x.check(p);
-            case "reason": return x.reason();
-            case "state": return x.state(p);
-            case "wave": return x.wave(p, q);
-            case "restAt": return x.restAt(p, q, r);
-            case "calmIn": return x.calmIn(p, q);
-            case "bestLevel": return x.bestLevel(p, q);
-            case "put": return x.put(v[0]);
-            case "wipe": return x.wipe();
-            case "fault": return x.fault();
-            case "load": return x.load();
-            case "undo": return x.undo();
-            case "save": return x.save(p);
-            case "restore": return x.restore(p);
-            default: throw new IllegalArgumentException(name);
-        }
     }
 }

@@ -14,6 +14,7 @@ public final class NumbersTest {
         reasonSix();
         state();
         wave();
+        everyCourse();
         restAt();
         T.end();
     }
@@ -277,6 +278,22 @@ public final class NumbersTest {
         for (int[] w : wrong) {
             T.due("wave " + w[0] + " " + w[1], x.wave(w[0], w[1]), -2 - G);
         }
+    }
+
+    private static void everyCourse() {
+        GyroTrainer x = new GyroTrainer();
+        for (int course = 0; course < 36000; course++) {
+            if (course % 200 == 0) {
+                x = new GyroTrainer();
+            }
+            T.due("sine of " + course, x.wave(course, 0), sineOf(course));
+            T.due("cosine of " + course, x.wave(course, 1), sineOf((course + 9000) % 36000));
+        }
+    }
+
+    private static long sineOf(int course) {
+        long u = course % 18000L * (18000 - course % 18000);
+        return (course < 18000 ? 4000000 : -4000000) * u / (405000000 - u);
     }
 
     private static void restAt() {
