@@ -20,7 +20,8 @@ public final class Promise14Test {
         C.test("10 is taken, 11 is refused", "guess 7", "compass 10 ~ 7", "compass 11 ! BAD_VALUE-GONE",
             "compass MAX ! BAD_VALUE-GONE");
         C.test("looking changes nothing", Cases.RICH, "compass -1 ! BAD_VALUE-GONE", "compass 11 ! BAD_VALUE-GONE",
-            "compass 3 ~ 1", "compass 4 ~ 6803", "compass 5 ~ 7259", "compass 6 ~ -51080", "compass 8 ~ 40344596", "compass 9 ~ -3");
+            "compass 3 ~ 1", "compass 4 ~ 6803", "compass 5 ~ 7259", "compass 6 ~ -51080", "compass 8 ~ 40344596",
+            "compass 9 ~ -3");
         C.says("Methods that return amounts that can be negative return error codes and NONE minus GONE, where GONE"
             + " is 1000000000.");
         C.test("amounts of -1 to -6 are no errors", "start -2 -6", "compass 0 ~ -2", "compass 1 ~ -6",

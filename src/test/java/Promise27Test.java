@@ -119,8 +119,8 @@ public final class Promise27Test {
             "undo", "state 0 = 3", "start 70 -1", "pass 1 = 1", "compass 5 = 75");
         C.test("the bearings of the lines", "set NOISE 0", "line 10", "line 20", "start 5 6", "undo", "undo",
             "line 30", "start 5 6", "undo", "observe 1 = 30", "observe 0 = 10");
-        C.test("the bearings of a full row of lines", "set NOISE 0", "line 10", "save 0", "undo", "line 20", "5 x line 30",
-            "start 5 6", "restore 0", "observe 0 = 10", "undo", "undo", "observe 0 = 20", "observe 5 = 30");
+        C.test("the bearings of a full row of lines", "set NOISE 0", "line 10", "save 0", "undo", "line 20",
+            "5 x line 30", "start 5 6", "restore 0", "observe 0 = 10", "undo", "undo", "observe 0 = 20", "observe 5 = 30");
         C.test("the greatest sum of faults", "guess 1800000", "guess 1800000", "undo = 1", "compass 10 = 1800000",
             "state 17 = 1", "undo = 0", "compass 10 = 0", "state 17 = 0");
     }
