@@ -527,7 +527,9 @@ public final class GyroTrainer {
         long faults;
 
         State() {
-            copy(SETTING_FIRST, settings);
+            for (int i = 0; i < settings.length && i < SETTING_FIRST.length; i++) {
+                settings[i] = SETTING_FIRST[i];
+            }
         }
 
         void copyFrom(State other) {

@@ -5,6 +5,11 @@ final class Calls {
     private final GyroTrainer x = new GyroTrainer();
     private int made;
 
+    /** How many calls it has answered. */
+    int made() {
+        return made;
+    }
+
     long answer(String name, long... v) {
         made++;
         if (made > MOST) {

@@ -23,6 +23,9 @@ public final class FaceTest {
         Constructor<?>[] constructors = GyroTrainer.class.getDeclaredConstructors();
         T.due("constructors", constructors.length, 1);
         T.due("it is public", constructors[0].getModifiers() & Modifier.PUBLIC, Modifier.PUBLIC);
+        T.due("it takes nothing", constructors[0].getParameterCount(), 0);
+        T.due("it tells of no exception", constructors[0].getExceptionTypes().length, 0);
+        T.due("interfaces", GyroTrainer.class.getInterfaces().length, 0);
         T.due("the class is public and final", GyroTrainer.class.getModifiers(), Modifier.PUBLIC | Modifier.FINAL);
         T.end();
     }
@@ -41,6 +44,7 @@ public final class FaceTest {
             } else {
                 T.due("in the document: " + told, due.remove(told) ? 1 : 0, 1);
                 T.due("public: " + told, method.getModifiers(), Modifier.PUBLIC);
+                T.due("tells of no exception: " + told, method.getExceptionTypes().length, 0);
                 T.due("answers an int: " + told, method.getReturnType() == int.class ? 1 : 0, 1);
             }
         }

@@ -1,4 +1,4 @@
-/** Promise 1, a new object: its boundary cases. */
+/** Promise 1, a new object: its cases. */
 public final class Promise01Test {
     private static final Cases C = new Cases("promise 1, GyroTrainer()");
 

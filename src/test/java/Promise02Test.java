@@ -1,4 +1,4 @@
-/** Promise 2, set: its boundary cases. */
+/** Promise 2, set: its cases. */
 public final class Promise02Test {
     private static final Cases C = new Cases("promise 2, set");
     private static final String[] NAMES = {"GAIN", "RATE", "LATE", "SWING", "AGREE", "TOLERANCE", "NOISE", "SEED",
@@ -16,6 +16,7 @@ public final class Promise02Test {
         }
         noSuchSetting();
         previousValue();
+        whatItChanges();
         C.end();
     }
 
@@ -55,5 +56,25 @@ public final class Promise02Test {
         C.test("the value that it is", "set RATE 250 = 250", "set RATE 250 = 250", "state 21 = 2");
         C.test("the previous value behind undo", "set LATE 1", "undo", "set LATE 2 = 15000");
         C.test("SEED: what observations have made of it", "line 0", "observe 0", "set SEED 0 = 149");
+    }
+    private static void whatItChanges() {
+        C.says("Changes a setting. This is a change.");
+        int[] values = {55, 66, 77, 88, 99, 111, 22, 333, 44};
+        for (int setting = 0; setting < NAMES.length; setting++) {
+            String set = "set " + NAMES[setting] + " " + values[setting];
+            String number = "state " + (22 + setting);
+            if (NAMES[setting].equals("LATE")) {
+                C.only(NAMES[setting] + ": nothing else, but for R", Cases.RICH, set, number, "compass 2");
+            } else {
+                C.only(NAMES[setting] + ": nothing else", Cases.RICH, set, number);
+            }
+            C.only(NAMES[setting] + ": nothing, to the value that it is", Cases.RICH + set + "\n", set);
+            C.undone(NAMES[setting] + ": undo takes it back", Cases.ROOM, set);
+        }
+        C.says("`GAIN = 0, RATE = 1, LATE = 2, SWING = 3, AGREE = 4, TOLERANCE = 5, NOISE = 6, SEED = 7, WAIT = 8`:"
+            + " Settings.");
+        C.test("their numbers are those of state, less 22", "set 0 31", "set 1 32", "set 2 33", "set 3 34", "set 4 35",
+            "set 5 36", "set 6 37", "set 7 38", "set 8 39", "state 22 = 31", "state 23 = 32", "state 24 = 33",
+            "state 25 = 34", "state 26 = 35", "state 27 = 36", "state 28 = 37", "state 29 = 38", "state 30 = 39");
     }
 }

@@ -1,4 +1,4 @@
-/** Promise 3, start: its boundary cases. */
+/** Promise 3, start: its cases. */
 public final class Promise03Test {
     private static final Cases C = new Cases("promise 3, start");
 
@@ -8,6 +8,7 @@ public final class Promise03Test {
         refused();
         previousError();
         direction();
+        whatItChanges();
         C.end();
     }
 
@@ -63,5 +64,12 @@ public final class Promise03Test {
             "compass 3 = -1", "state 13 = 0", "pass 1 = 0", "compass 3 = -1");
         C.test("a turning point is at the error that a start put", Cases.STILL, "start 0 5", "pass 1",
             "start -800 -1", "pass 1 = 1", "turn 0 0 = -800", "turn 0 1 = 1");
+    }
+    private static void whatItChanges() {
+        C.says("Puts the compass to an error and a tilt. This is a change.");
+        C.test("the first one is the error, the second one the tilt", "start 5 -6", "compass 0 = 5", "compass 1 = -6");
+        C.only("error and tilt, nothing else", Cases.RICH, "start 5 -6", "compass 0", "compass 1");
+        C.only("nothing, to where it is", Cases.RICH + "start 5 -6\n", "start 5 -6");
+        C.undone("undo takes it back", Cases.ROOM, "start 5 -6");
     }
 }

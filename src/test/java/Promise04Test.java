@@ -1,4 +1,4 @@
-/** Promise 4, place: its boundary cases. */
+/** Promise 4, place: its cases. */
 public final class Promise04Test {
     private static final Cases C = new Cases("promise 4, place");
 
@@ -6,6 +6,8 @@ public final class Promise04Test {
         range();
         legs();
         refused();
+        whatItChanges();
+        units();
         C.end();
     }
 
@@ -39,5 +41,20 @@ public final class Promise04Test {
         C.says("Returns the number of legs; BAD_VALUE if degrees is out of range;");
         C.test("a refused one changes nothing, the history neither", Cases.RICH, "place 71 ! BAD_VALUE",
             "place -71 ! BAD_VALUE", "place 70 ! NOT_POSSIBLE", "place 0 ! NOT_POSSIBLE");
+    }
+    private static void whatItChanges() {
+        String run = Cases.RICH + "steer 100 20\n";
+        C.says("Puts the ship to a latitude. This is a change.");
+        C.only("the latitude, and R with it", run, "place -7", "compass 8", "compass 2");
+        C.only("nothing, to where it is", run + "place -7\n", "place -7");
+        C.undone("undo takes it back", Cases.ROOM + "steer 100 20\n", "place -7");
+    }
+
+    private static void units() {
+        C.says("Errors, rests and tilts are in ten-thousandths of a degree, courses and bearings in hundredths of a"
+            + " degree (0 to 35999), latitudes in millionths of a degree (north is positive).");
+        C.test("a degree of latitude", "place 1", "compass 8 = 1000000", "place -1", "compass 8 = -1000000");
+        C.test("the course 0 leads to the north, the course 18000 to the south", "steer 0 10", "pass 1",
+            "compass 8 = 280", "steer 18000 20", "pass 1", "compass 8 = -280");
     }
 }

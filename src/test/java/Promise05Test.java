@@ -1,4 +1,4 @@
-/** Promise 5, line: its boundary cases. */
+/** Promise 5, line: its cases. */
 public final class Promise05Test {
     private static final Cases C = new Cases("promise 5, line");
 
@@ -6,6 +6,7 @@ public final class Promise05Test {
         range();
         row();
         refused();
+        whatItChanges();
         C.end();
     }
 
@@ -38,5 +39,12 @@ public final class Promise05Test {
         C.says("A call that returns an error changes nothing.");
         C.test("a refused one changes nothing, the history neither", Cases.RICH, "line -1 ! BAD_VALUE",
             "line 36000 ! BAD_VALUE", "4 x line 5", "line 7 ! TOO_MANY");
+    }
+    private static void whatItChanges() {
+        C.says("Adds a reference line. This is a change.");
+        C.only("a line more, nothing else", Cases.RICH, "line 77", "state 19");
+        C.undone("undo takes it back", Cases.ROOM, "line 77");
+        C.test("the lines that are there stay", "set NOISE 0", "line 10", "line 20", "line 30", "observe 0 = 10",
+            "observe 1 = 20", "observe 2 = 30", "observe 0 = 10");
     }
 }

@@ -1,4 +1,4 @@
-/** Promise 6, steer: its boundary cases. */
+/** Promise 6, steer: its cases. */
 public final class Promise06Test {
     private static final Cases C = new Cases("promise 6, steer");
 
@@ -6,6 +6,7 @@ public final class Promise06Test {
         ranges();
         dropsLegs();
         refused();
+        whatItChanges();
         C.end();
     }
 
@@ -38,5 +39,14 @@ public final class Promise06Test {
         C.test("a refused one changes nothing, legs and history neither", Cases.RICH, "steer -1 0 ! BAD_VALUE",
             "steer 36000 0 ! BAD_VALUE", "steer 0 -1 ! BAD_VALUE", "steer 0 401 ! BAD_VALUE",
             "steer 36000 401 ! BAD_VALUE", "state 3 = 2");
+    }
+    private static void whatItChanges() {
+        C.says("Steers: all legs are dropped, and the ship has a course and a speed from now on. This is a change.");
+        C.only("course and speed, the legs, and R with them", Cases.RICH, "steer 1 2", "state 1", "state 2", "state 3",
+            "state 4", "compass 2");
+        C.only("without legs: course and speed, and R with them", Cases.RICH + "steer 5 6\n", "steer 1 2", "state 1",
+            "state 2", "compass 2");
+        C.only("nothing, to what is steered", Cases.RICH + "steer 1 2\n", "steer 1 2");
+        C.undone("undo takes it back, and brings the legs", Cases.ROOM, "steer 1 2");
     }
 }

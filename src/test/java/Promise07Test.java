@@ -1,4 +1,4 @@
-/** Promise 7, leg: its boundary cases. */
+/** Promise 7, leg: its cases. */
 public final class Promise07Test {
     private static final Cases C = new Cases("promise 7, leg");
 
@@ -7,6 +7,7 @@ public final class Promise07Test {
         row();
         firstLeg();
         refused();
+        whatItChanges();
         C.end();
     }
 
@@ -61,5 +62,18 @@ public final class Promise07Test {
             "leg 0 0 601 ! BAD_VALUE", "6 x leg 3 4 5", "leg 0 0 1 ! TOO_MANY");
         C.test("a refused first leg is not sailed", "steer 1 2", "leg 300 40 0 ! BAD_VALUE", "state 1 = 1",
             "state 2 = 2", "state 3 = 0");
+    }
+    private static void whatItChanges() {
+        C.says("Adds a leg behind all others. This is a change.");
+        C.only("a leg more, nothing else", Cases.RICH, "leg 1 2 3", "state 3");
+        C.undone("undo takes it back", Cases.ROOM, "leg 1 2 3");
+        C.test("behind all others", "leg 100 10 1", "leg 200 20 2", "leg 300 30 3", "pass 1", "leg 400 40 4 = 3",
+            "state 1 = 200", "pass 2", "state 1 = 300", "pass 3", "state 1 = 400", "state 2 = 40", "state 4 = 4",
+            "pass 4", "state 3 = 0");
+        C.says("A leg has a course, a speed, and minutes (1 to 600). If there are legs, the first one is sailed:");
+        C.only("the first one: course, speed, minutes, and R with them", Cases.RICH + "steer 100 20\n", "leg 1 2 3",
+            "state 1", "state 2", "state 3", "state 4", "compass 2");
+        C.undone("undo takes the first one back, with its course and speed", Cases.ROOM + "steer 100 20\n",
+            "leg 1 2 3");
     }
 }

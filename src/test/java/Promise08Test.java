@@ -1,4 +1,4 @@
-/** Promise 8, pass, with what a minute does: its boundary cases. */
+/** Promise 8, pass, with what a minute does: its cases. */
 public final class Promise08Test {
     private static final Cases C = new Cases("promise 8, pass");
     /** Tilts grow fast then, and the error hardly moves. */
@@ -23,6 +23,9 @@ public final class Promise08Test {
         latitude();
         latitudeIsRounded();
         counters();
+        whatItChanges();
+        atRest();
+        units();
         C.end();
     }
 
@@ -258,5 +261,44 @@ public final class Promise08Test {
             "pass 1", "state 5 = 1", "steer 0 400", "pass 600", "state 5 = 240001");
         C.test("the greatest way", "steer 9000 400", "166 x pass 600", "pass 400", "state 5 = 40000000",
             "state 10 = 100000");
+    }
+    private static void whatItChanges() {
+        C.says("Lets minutes pass. This is a change.");
+        C.only("a minute: time, way and leg, the minutes at the level and since it was changed, A, T, latitude",
+            Cases.RICH, "pass 1", "state 0", "state 4", "state 5", "state 7", "state 11", "compass 0", "compass 1",
+            "compass 8");
+        C.only("a minute at rest without speed: the time, and the minutes at the level", Cases.RICH
+            + "steer 0 0\nplace 0\ncorrect 0 0\nstart 0 0\n", "pass 1", "state 0", "state 7", "state 11");
+        C.only("a minute with a turning point: what is about them, too", Cases.STILL + "start 0 1\npass 1\nstart 9 -1\n",
+            "pass 1", "state 0", "state 7", "state 8", "state 13", "state 14", "compass 0", "compass 3",
+            "turn 0 0", "turn 0 1");
+        C.undone("undo takes all of them back", Cases.ROOM, "pass 600");
+        C.test("600 minutes in one call are as many as in several", Cases.RICH, "pass 600", "compass 0 = 12698",
+            "compass 1 = 24", "compass 8 = 40310760", "state 14 = 13");
+        C.test("600 minutes in several calls are as many as in one", Cases.RICH, "pass 1", "pass 36", "pass 7",
+            "pass 55", "pass 500", "pass 1", "compass 0 = 12698", "compass 1 = 24", "compass 8 = 40310760",
+            "state 14 = 13");
+        C.says("BAD_VALUE if minutes is out of range;");
+        C.test("minutes out of range do not pass", Cases.RICH, "pass 601 ! BAD_VALUE", "pass 0 ! BAD_VALUE",
+            "state 0 = 197");
+    }
+
+    private static void atRest() {
+        C.says("The compass has an error A and a tilt T, and is at rest at the error R = E(latitude, speed, course) -"
+            + " E(latitude that is set, speed that is set, course), where");
+        C.test("there it stays", "place 50", "compass 2 = 17871", "start 17871 0", "pass 600 = 0", "compass 0 = 17871",
+            "compass 1 = 0", "compass 3 = 0");
+        C.test("in the south, too", "place -50", "compass 2 = -17871", "start -17871 0", "pass 600 = 0",
+            "compass 0 = -17871", "compass 1 = 0");
+        C.test("with correctors, too", "place 50", "correct 20 100", "steer 4500 0", "compass 2 = 17201",
+            "start 17201 0", "pass 600 = 0", "compass 0 = 17201", "compass 1 = 0");
+        C.test("elsewhere it does not stay", "place 50", "start 17970 0", "pass 1", "compass 1 = 0", "start 17973 0",
+            "pass 1", "compass 1 = -1");
+    }
+
+    private static void units() {
+        C.says("Speeds are in tenths of a knot.");
+        C.test("an hour at 10 knots to the north is some ten minutes of arc", "steer 0 100", "pass 60",
+            "compass 8 = 168000", "state 5 = 6000");
     }
 }

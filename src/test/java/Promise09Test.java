@@ -1,4 +1,4 @@
-/** Promise 9, damp: its boundary cases. */
+/** Promise 9, damp: its cases. */
 public final class Promise09Test {
     private static final Cases C = new Cases("promise 9, damp");
 
@@ -8,6 +8,7 @@ public final class Promise09Test {
         waits();
         sameLevel();
         refused();
+        whatItChanges();
         C.end();
     }
 
@@ -70,5 +71,16 @@ public final class Promise09Test {
             "damp 5 ! BAD_VALUE", "state 7 = 8", "pass 2", "damp 1 = 3");
         C.test("a refused one changes nothing, the history neither", Cases.RICH, "damp 5 ! BAD_VALUE",
             "damp -1 ! BAD_VALUE", "damp 1", "pass 4", "damp 2 ! NOT_POSSIBLE");
+    }
+    private static void whatItChanges() {
+        C.says("This is a change.");
+        C.only("the level and the minutes since, nothing else", Cases.RICH, "damp 1", "state 6", "state 7");
+        C.only("to the one that it is: the minutes since, nothing else", Cases.RICH, "damp 3", "state 7");
+        C.undone("undo takes it back", Cases.ROOM, "damp 1");
+        C.undone("undo takes it back, of the one that it is, too", Cases.ROOM, "damp 3");
+        C.says("Returns the previous level; BAD_VALUE if level is out of range;");
+        C.test("the previous level behind undo", "damp 1 = 2", "undo", "damp 4 = 2");
+        C.test("the level that is refused is not the previous one", "damp 5 ! BAD_VALUE", "damp -1 ! BAD_VALUE",
+            "damp 3 = 2");
     }
 }

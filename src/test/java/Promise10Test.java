@@ -1,4 +1,4 @@
-/** Promise 10, correct: its boundary cases. */
+/** Promise 10, correct: its cases. */
 public final class Promise10Test {
     private static final Cases C = new Cases("promise 10, correct");
 
@@ -6,6 +6,7 @@ public final class Promise10Test {
         ranges();
         whetherRestIsAnother();
         refused();
+        whatItChanges();
         C.end();
     }
 
@@ -44,5 +45,13 @@ public final class Promise10Test {
         C.test("a refused one changes nothing, the history neither", Cases.RICH, "correct 71 0 ! BAD_VALUE",
             "correct -71 0 ! BAD_VALUE", "correct 0 401 ! BAD_VALUE", "correct 0 -1 ! BAD_VALUE",
             "correct 71 401 ! BAD_VALUE");
+    }
+    private static void whatItChanges() {
+        C.says("Sets the correctors. This is a change.");
+        C.only("what is set, and R with it", Cases.RICH, "correct 5 6", "compass 9", "state 18", "compass 2");
+        C.only("nothing, to what is set", Cases.RICH + "correct 5 6\n", "correct 5 6");
+        C.only("the speed alone", Cases.RICH, "correct -3 30", "state 18", "compass 2");
+        C.only("the latitude alone", Cases.RICH, "correct 3 20", "compass 9", "compass 2");
+        C.undone("undo takes it back", Cases.ROOM, "correct 5 6");
     }
 }

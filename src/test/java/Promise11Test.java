@@ -1,4 +1,4 @@
-/** Promise 11, forgetSwings: its boundary cases. */
+/** Promise 11, forgetSwings: its cases. */
 public final class Promise11Test {
     private static final Cases C = new Cases("promise 11, forgetSwings");
 
@@ -26,6 +26,12 @@ public final class Promise11Test {
             "state 15 = 1", "check 0 = 3", "state 0 = 2", "compass 0 = 4");
         C.test("undo brings the full row and the direction back", Cases.turned(1, 2, 3, 4, 5, 6, 7, 8),
             "forgetSwings = 8", "undo", "state 13 = 8", "turn 7 0 = 1", "turn 0 0 = 8", "compass 3 = 1");
+        C.says("This is a change.");
+        C.only("turning points, what is told from them, and the direction", Cases.RICH, "forgetSwings", "state 13",
+            "compass 3", "compass 4", "compass 5", "compass 6", "turn 0 0", "turn 0 1", "turn 1 0", "turn 1 1",
+            "turn 2 0", "turn 2 1");
+        C.only("nothing, when all are forgotten", Cases.RICH + "forgetSwings\n", "forgetSwings");
+        C.undone("undo takes it back", Cases.ROOM, "forgetSwings");
         C.end();
     }
 }

@@ -1,4 +1,4 @@
-/** Promise 12, observe: its boundary cases. */
+/** Promise 12, observe: its cases. */
 public final class Promise12Test {
     private static final Cases C = new Cases("promise 12, observe");
 
@@ -9,6 +9,8 @@ public final class Promise12Test {
         difference();
         wrapAround();
         checksAreKept();
+        whatItChanges();
+        units();
         C.end();
     }
 
@@ -91,5 +93,23 @@ public final class Promise12Test {
             "state 16 = 12", "check 0 = 12", "check 1 = 11", "check 2 = 10", "check 3 = 9", "check 4 = 8");
         C.test("one that is undone brings the oldest back", Cases.checked(1, 2, 3, 4, 5, 6), "undo", "state 15 = 5",
             "state 16 = 5", "check 0 = 5", "check 4 = 1", "compass 7 = 15");
+    }
+    private static void whatItChanges() {
+        C.says("Observes a reference line. This is a change. Returns the bearing that is read;");
+        C.only("checks, observations and the seed, nothing else", Cases.RICH, "observe 0", "state 15", "state 16",
+            "state 29", "compass 7", "check 0", "check 1", "check 2", "check 3", "check 4");
+        C.undone("undo takes it back", Cases.ROOM, "observe 0");
+        C.says("When one is observed:");
+        C.test("no other call moves the seed", "line 5", Cases.turned(1, 2, 3), "state 29 = 1", "calmIn 5 5", "guess 5",
+            "correct 1 2", "state 29 = 1");
+        C.test("each line is read with its own bearing", "set NOISE 0", "line 100", "line 20000", "observe 1 = 20000",
+            "observe 0 = 100");
+    }
+
+    private static void units() {
+        C.says("Errors, rests and tilts are in ten-thousandths of a degree, courses and bearings in hundredths of a"
+            + " degree (0 to 35999), latitudes in millionths of a degree (north is positive).");
+        C.test("a degree of the error is a degree of the bearing", "set NOISE 0", "line 9000", "start 10000 0",
+            "observe 0 = 9100", "start -10000 0", "observe 0 = 8900");
     }
 }

@@ -1,4 +1,4 @@
-/** Promise 13, guess: its boundary cases. */
+/** Promise 13, guess: its cases. */
 public final class Promise13Test {
     private static final Cases C = new Cases("promise 13, guess");
 
@@ -21,6 +21,11 @@ public final class Promise13Test {
         C.says("Returns this absolute value; BAD_VALUE if error is out of range.");
         C.test("a refused one changes nothing, the history neither", Cases.RICH, "guess 1800001 ! BAD_VALUE",
             "guess -1800001 ! BAD_VALUE", "guess MIN ! BAD_VALUE", "guess MAX ! BAD_VALUE");
+        C.says("Guesses the error at which the compass is at rest;");
+        C.only("the guesses and the sum of faults, nothing else", Cases.RICH, "guess 5", "state 17", "compass 10");
+        C.only("R itself: the guesses, nothing else", Cases.RICH, "guess 11739 = 0", "state 17");
+        C.says("This is a change.");
+        C.undone("undo takes it back", Cases.ROOM, "guess 5");
         C.end();
     }
 }

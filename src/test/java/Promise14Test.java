@@ -1,4 +1,4 @@
-/** Promise 14, compass: its boundary cases. */
+/** Promise 14, compass: its cases. */
 public final class Promise14Test {
     private static final Cases C = new Cases("promise 14, compass");
 
@@ -10,6 +10,7 @@ public final class Promise14Test {
         mean();
         rest();
         latitudeOfRest();
+        eachTellsItsOwn();
         C.end();
     }
 
@@ -132,5 +133,18 @@ public final class Promise14Test {
         C.test("the latitude -10000 is the course 1, and its sine is below 0", "steer 18000 349", "pass 1",
             "steer 13500 1", "pass 12", "steer 0 0", "compass 8 ~ -10000", "compass 2 ~ -2");
         C.test("the latitude 0 has no sine", "place 0", "compass 2 ~ 0", "set LATE 30000", "compass 2 ~ 0");
+    }
+    private static void eachTellsItsOwn() {
+        String run = Cases.checked(3, 4) + Cases.turned(10, 25, 40) + "start 41 -9\nplace 7\ncorrect -9 0\nguess 5000\n";
+        C.says("Returns a number about the compass.");
+        C.test("0 A, 1 T, 3 the direction, 6 the swing, 7 the sum of checks", run, "compass 0 ~ 41", "compass 1 ~ -9",
+            "compass 3 ~ -1", "compass 6 ~ 15", "compass 7 ~ 7");
+        C.says("`what`: 0 A, 1 T, 2 R,");
+        C.test("2 R", run, "restAt 7 0 0 = 1863", "restAt -9 0 0 = -2399", "compass 2 ~ 4262");
+        C.says("4 the settled error by turning points, 5 that by the mean");
+        C.test("4 and 5, which differ", run, "compass 4 ~ 25", "compass 5 ~ 17");
+        C.says("8 the latitude, 9 that which is set, in degrees, 10 the sum of faults");
+        C.test("8, 9 and 10", run, "compass 8 ~ 7000000", "compass 9 ~ -9", "compass 10 ~ 738", "guess 0",
+            "compass 10 ~ 5000");
     }
 }

@@ -1,4 +1,4 @@
-/** Promise 15, turn: its boundary cases. */
+/** Promise 15, turn: its cases. */
 public final class Promise15Test {
     private static final Cases C = new Cases("promise 15, turn");
 
@@ -6,6 +6,7 @@ public final class Promise15Test {
         rows();
         what();
         theyStay();
+        eachTellsItsOwn();
         C.end();
     }
 
@@ -66,5 +67,13 @@ public final class Promise15Test {
         }
         C.test("forgetSwings drops them", run, "forgetSwings", "turn 0 0 ! NO_SUCH-GONE", "turn 7 0 ! NO_SUCH-GONE",
             "state 13 = 0", "compass 3 = 0");
+    }
+    private static void eachTellsItsOwn() {
+        C.says("Returns a number about a turning point that is kept.");
+        C.test("all that are kept", Cases.turned(11, 22, 33), "turn 0 0 ~ 33", "turn 1 0 ~ 22", "turn 2 0 ~ 11",
+            "turn 0 1 ~ 3", "turn 1 1 ~ 2", "turn 2 1 ~ 1");
+        C.says("`what`: 0 its error, 1 its number of minutes");
+        C.test("the number of minutes that had passed then", "pass 77", Cases.STILL, "start 0 1", "pass 5",
+            "start 900 -1", "pass 9", "turn 0 0 ~ 900", "turn 0 1 ~ 82");
     }
 }

@@ -1,4 +1,4 @@
-/** Promise 16, check: its boundary cases. */
+/** Promise 16, check: its cases. */
 public final class Promise16Test {
     private static final Cases C = new Cases("promise 16, check");
 
@@ -28,6 +28,10 @@ public final class Promise16Test {
         C.says("A call that returns an error changes nothing.");
         C.test("looking changes nothing", Cases.RICH, "check -1 ! NO_SUCH-GONE", "check 4 ! NO_SUCH-GONE",
             "check MIN ! NO_SUCH-GONE");
+        C.says("Returns a check that is kept.");
+        C.test("all that are kept", Cases.checked(11, -22, 33), "check 0 ~ 33", "check 1 ~ -22", "check 2 ~ 11");
+        C.test("the difference, not the bearing", "set NOISE 0", "line 9000", "start 700 0", "observe 0 = 9007",
+            "check 0 ~ 7");
         C.end();
     }
 }

@@ -1,4 +1,4 @@
-/** Promise 17, reason: its boundary cases. */
+/** Promise 17, reason: its cases. */
 public final class Promise17Test {
     private static final Cases C = new Cases("promise 17, reason");
 
@@ -11,6 +11,7 @@ public final class Promise17Test {
         settled();
         level();
         firstOfThem();
+        looking();
         C.end();
     }
 
@@ -109,5 +110,12 @@ public final class Promise17Test {
             "reason ~ 5", "set TOLERANCE 200", "damp 1", "reason ~ 0");
         C.test("6 comes ahead of 7", Cases.turned(200, 200, 200), Cases.checked(2, 2, 2), "set TOLERANCE 0",
             "state 6 ~ 0", "reason ~ 6");
+    }
+    private static void looking() {
+        C.says("Returns the reason why the compass may not be trusted.");
+        C.test("looking changes nothing", Cases.RICH, "reason ~ 2", "set SWING 51080", "reason ~ 5",
+            "set TOLERANCE 5197", "reason ~ 6", "set TOLERANCE 6803", "reason ~ 0", "reason ~ 0");
+        C.test("the errors of now are nothing to it", Cases.turned(0, 0, 0), Cases.checked(0, 0, 0), "damp 1",
+            "start 900000 100000", "place 70", "reason ~ 0");
     }
 }

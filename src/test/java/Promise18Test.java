@@ -1,4 +1,4 @@
-/** Promise 18, state: its boundary cases. */
+/** Promise 18, state: its cases. */
 public final class Promise18Test {
     private static final Cases C = new Cases("promise 18, state");
 
@@ -8,6 +8,7 @@ public final class Promise18Test {
         sinceChanged();
         fullRows();
         all();
+        eachTellsItsOwn();
         C.end();
     }
 
@@ -81,5 +82,16 @@ public final class Promise18Test {
             "set AGREE 35", "set TOLERANCE 36", "set NOISE 37", "set SEED 38", "set WAIT 39", "state 22 ~ 31",
             "state 23 ~ 32", "state 24 ~ 33", "state 25 ~ 34", "state 26 ~ 35", "state 27 ~ 36", "state 28 ~ 37",
             "state 29 ~ 38", "state 30 ~ 39");
+    }
+    private static void eachTellsItsOwn() {
+        C.says("Returns a number about the ship and the trainer.");
+        int[] due = {197, 3000, 40, 2, 43, 17380, 3, 27, 0, 0, 170, 27, 0, 3, 3, 4, 4, 1, 20, 2, 8, 6, 20, 250, 15000,
+            5000, 500, 3000, 20, 38044, 5};
+        for (int what = 0; what < due.length; what++) {
+            C.test("the number " + what, Cases.RICH, "state " + what + " ~ " + due[what]);
+        }
+        C.says("0 the time, 1 the course, 2 the speed, 3 the legs,");
+        C.test("0 to 3, and other numbers", "leg 700 80 9", "leg 600 50 4", "pass 2", "state 0 ~ 2", "state 1 ~ 700",
+            "state 2 ~ 80", "state 3 ~ 2");
     }
 }

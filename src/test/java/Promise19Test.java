@@ -1,4 +1,4 @@
-/** Promise 19, wave: its boundary cases. */
+/** Promise 19, wave: its cases. */
 public final class Promise19Test {
     private static final Cases C = new Cases("promise 19, wave");
 
@@ -36,6 +36,10 @@ public final class Promise19Test {
         C.says("Returns the number; BAD_VALUE minus GONE if an argument is out of range.");
         C.test("looking changes nothing", Cases.RICH, "wave -1 0 ! BAD_VALUE-GONE", "wave 36000 1 ! BAD_VALUE-GONE",
             "wave 0 2 ! BAD_VALUE-GONE", "wave 4500 1 ~ 705882");
+        C.says("Returns the sine or the cosine of a course.");
+        C.test("north, east, south and west", "wave 0 0 ~ 0", "wave 0 1 ~ 1000000", "wave 9000 0 ~ 1000000",
+            "wave 9000 1 ~ 0", "wave 18000 0 ~ 0", "wave 18000 1 ~ -1000000", "wave 27000 0 ~ -1000000",
+            "wave 27000 1 ~ 0");
         C.end();
     }
 }

@@ -1,4 +1,4 @@
-/** Promise 20, restAt: its boundary cases. */
+/** Promise 20, restAt: its cases. */
 public final class Promise20Test {
     private static final Cases C = new Cases("promise 20, restAt");
 

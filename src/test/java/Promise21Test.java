@@ -1,4 +1,4 @@
-/** Promise 21, calmIn: its boundary cases. */
+/** Promise 21, calmIn: its cases. */
 public final class Promise21Test {
     private static final Cases C = new Cases("promise 21, calmIn");
     /** A rest of 64 until the legs are done, with A and T at 0. */
@@ -10,6 +10,7 @@ public final class Promise21Test {
         calm();
         copies();
         errors();
+        asItComes();
         C.end();
     }
 
@@ -82,5 +83,12 @@ public final class Promise21Test {
             "calmIn -1 0 ! BAD_VALUE");
         C.test("a refused one changes nothing", Cases.RICH, "calmIn -1 1 ! BAD_VALUE", "calmIn 100001 1 ! BAD_VALUE",
             "calmIn 0 0 ! BAD_VALUE", "calmIn 0 2001 ! BAD_VALUE");
+    }
+    private static void asItComes() {
+        C.says("Tells in how many minutes the compass is calm:");
+        C.test("a minute before it comes", Cases.RICH, "calmIn 500 2000 ~ 89", "pass 88", "calmIn 500 5 ~ 1");
+        C.test("as it comes", Cases.RICH, "pass 89", "calmIn 500 5 ~ 0");
+        C.test("with the present level", Cases.RICH, "damp 1", "calmIn 500 2000 ~ 444", "undo", "damp 4",
+            "calmIn 500 2000 ~ 90");
     }
 }

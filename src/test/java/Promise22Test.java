@@ -1,4 +1,4 @@
-/** Promise 22, bestLevel: its boundary cases. */
+/** Promise 22, bestLevel: its cases. */
 public final class Promise22Test {
     private static final Cases C = new Cases("promise 22, bestLevel");
 
@@ -8,6 +8,7 @@ public final class Promise22Test {
         levels();
         copies();
         errors();
+        asItComes();
         C.end();
     }
 
@@ -82,5 +83,12 @@ public final class Promise22Test {
         C.says("BAD_VALUE if an argument is out of range;");
         C.test("a refused one changes nothing", Cases.RICH, "bestLevel -1 1 ! BAD_VALUE",
             "bestLevel 100001 1 ! BAD_VALUE", "bestLevel 0 0 ! BAD_VALUE", "bestLevel 0 501 ! BAD_VALUE");
+    }
+    private static void asItComes() {
+        C.says("Finds the damping level with which the compass is calm soonest, if it is taken now (WAIT does not"
+            + " matter).");
+        C.test("the minutes that each level takes", Cases.RICH, "set WAIT 0", "damp 0", "calmIn 500 500 ~ NONE",
+            "damp 1", "calmIn 500 500 ~ 444", "damp 2", "calmIn 500 500 ~ 240", "damp 3", "calmIn 500 500 ~ 89",
+            "damp 4", "calmIn 500 500 ~ 90", "bestLevel 500 500 ~ 3", "damp 0", "bestLevel 500 500 ~ 3");
     }
 }

@@ -1,4 +1,4 @@
-/** Promise 23, put: its boundary cases. */
+/** Promise 23, put: its cases. */
 public final class Promise23Test {
     private static final Cases C = new Cases("promise 23, put");
     private static final String NINE_TIMES_EIGHT = "9 x put \"abcdefgh\"";
@@ -9,6 +9,7 @@ public final class Promise23Test {
         aboveZero();
         fullPad();
         refused();
+        whatItChanges();
         C.end();
     }
 
@@ -91,5 +92,13 @@ public final class Promise23Test {
         C.says("A history of at most 6 states is kept: each method that is a change, and returns no error, records"
             + " the state before it (also if nothing is different then);");
         C.test("it is no change", "put \"c\"", "state 21 = 0", "undo ! NOT_POSSIBLE", "state 20 = 1");
+    }
+    private static void whatItChanges() {
+        C.says("Appends characters to the pad. They are given as a number:");
+        C.only("the pad, nothing else", Cases.RICH, "put \"4v5\"", "state 20", "fault");
+        C.test("behind those that are there, in their order", "put \"c12v\" = 4", "put \"34m56\" = 9", "load = 1",
+            "state 1 = 1200", "state 2 = 34", "state 4 = 56");
+        C.sameBehind("one by one or at once", Cases.RICH + "put \"4v5m6\"\n",
+            Cases.RICH + "put \"4\"\nput \"v\"\nput \"5\"\nput \"m\"\nput \"6\"\n");
     }
 }

@@ -1,4 +1,4 @@
-/** Promise 24, wipe: its boundary cases. */
+/** Promise 24, wipe: its cases. */
 public final class Promise24Test {
     private static final Cases C = new Cases("promise 24, wipe");
 
@@ -15,6 +15,9 @@ public final class Promise24Test {
         C.test("it is no change", Cases.RICH, "wipe = 8", "state 21 = 6");
         C.test("undo does not bring the text back", "start 1 2", "put \"c1\"", "start 3 4", "wipe = 2", "undo = 1",
             "state 20 = 0", "undo = 0", "state 20 = 0");
+        C.says("Empties the pad, and returns the length that it had.");
+        C.only("the pad, nothing else", Cases.RICH, "wipe = 8", "state 20", "fault");
+        C.sameBehind("behind it all is as if nothing had been put", "put \"c1v2m3\"\nwipe\n", "");
         C.end();
     }
 }

@@ -1,4 +1,4 @@
-/** Promise 25, fault: its boundary cases. */
+/** Promise 25, fault: its cases. */
 public final class Promise25Test {
     private static final Cases C = new Cases("promise 25, fault");
 
@@ -9,6 +9,7 @@ public final class Promise25Test {
         tooEarly();
         lengths();
         looking();
+        grammar();
         C.end();
     }
 
@@ -101,5 +102,13 @@ public final class Promise25Test {
         C.test("it changes nothing", Cases.RICH, "fault ~ 8", "put \"x\"", "fault ~ 8", "fault ~ 8");
         C.test("a fault behind one that was mended", "put \"x\"", "fault ~ 0", "wipe", "write \"c1v2m3\"", "fault ~ NONE",
             "fault ~ NONE", "load = 1", "fault ~ 0");
+    }
+    private static void grammar() {
+        C.says("leg = \"c\" number \"v\" number \"m\" number");
+        faults("the letters in another order", "v1c2m3", 0, "c1m2v3", 2, "m1v2c3", 0);
+        faults("a letter that is missing", "1v2m3", 0, "c12m3", 3, "c1v23", 5);
+        faults("a number that is missing", "cv2m3", 1, "c1vm3", 3, "c1v2m;c1v2m3", 5);
+        C.test("no legs are added by looking at the fault", "write \"c1v2m3\"", "fault ~ NONE", "state 3 = 0",
+            "state 20 = 6");
     }
 }

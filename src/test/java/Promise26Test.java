@@ -1,4 +1,4 @@
-/** Promise 26, load: its boundary cases. */
+/** Promise 26, load: its cases. */
 public final class Promise26Test {
     private static final Cases C = new Cases("promise 26, load");
     private static final String EIGHT = "write \"c1v1m1;c2v2m2;c3v3m3;c4v4m4;c5v5m5;c6v6m6;c7v7m7;c8v8m8\"";
@@ -8,6 +8,7 @@ public final class Promise26Test {
         tooMany();
         legs();
         pad();
+        whatItChanges();
         C.end();
     }
 
@@ -71,5 +72,17 @@ public final class Promise26Test {
         C.says("A call that returns an error changes nothing.");
         C.test("a refused one changes nothing, pad and history neither", Cases.RICH, "load ! BAD_TEXT", "put \"7v8m9\"",
             "5 x leg 1 2 3", "load ! TOO_MANY");
+    }
+    private static void whatItChanges() {
+        C.says("This is a change.");
+        C.only("the legs and the pad, nothing else", Cases.RICH + "put \"7v8m9\"\n", "load = 4", "state 3", "state 20",
+            "fault");
+        C.only("the first leg: its course, speed and minutes, and R with them", Cases.RICH
+            + "steer 200 20\nput \"7v8m9\"\n", "load = 2", "state 1", "state 2", "state 3", "state 4",
+            "state 20", "fault", "compass 2");
+        C.sameBehind("undo takes it back, but for the pad", Cases.ROOM + "put \"7v8m9\"\nload = 3\nundo\n",
+            Cases.ROOM + "wipe\n");
+        C.test("courses are in whole degrees there, in hundredths in the ship", "write \"c123v4m5\"", "load = 1",
+            "state 1 = 12300", "state 2 = 4", "state 4 = 5");
     }
 }

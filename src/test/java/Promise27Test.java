@@ -1,4 +1,4 @@
-/** Promise 27, undo: its boundary cases. */
+/** Promise 27, undo: its cases. */
 public final class Promise27Test {
     private static final Cases C = new Cases("promise 27, undo");
 
@@ -11,6 +11,7 @@ public final class Promise27Test {
         whatIsNotRecorded();
         fullRowsComeBack();
         padSlotsAndHistory();
+        everything();
         C.end();
     }
 
@@ -136,5 +137,25 @@ public final class Promise27Test {
         C.test("a state that comes back is not that of the history any more", "start 1 0", "start 2 0", "undo = 1",
             "pass 600", "start 3 0", "undo = 2", "undo = 1", "compass 0 = 1", "state 0 = 0", "undo = 0",
             "compass 0 = 0");
+    }
+    /** One change of each kind that is possible everywhere. */
+    private static final String[] CHANGES = {"set LATE 7", "set SEED 9", "start 1 2", "line 5", "steer 1 2", "leg 5 6 7",
+        "pass 600", "damp 1", "correct 5 6", "forgetSwings", "observe 0", "guess 9", "restore 0", "restore 1"};
+
+    private static void everything() {
+        C.says("Undoes the latest change: everything except the pad, the slots and the history is as it was before it.");
+        for (String first : CHANGES) {
+            C.sameBehind("two of them, the first one is " + first, Cases.ROOM + first + "\npass 60\nundo\nundo\n",
+                Cases.ROOM);
+            C.sameBehind("another one than " + first, Cases.ROOM + first + "\nundo\nstart 7 8\n",
+                Cases.ROOM + "start 7 8\n");
+        }
+        C.sameBehind("six of them", Cases.RICH + "6 x undo\nset RATE 7\nstart 1 2\nsteer 5 6\npass 300\nobserve 0\n"
+            + "forgetSwings\n6 x undo\n", Cases.RICH + "6 x undo\n");
+        C.sameBehind("six other ones", Cases.RICH + "6 x undo\nline 7\nguess 8\ncorrect 9 10\nleg 5 6 7\npass 600\n"
+            + "restore 1\n6 x undo\n", Cases.RICH + "6 x undo\n");
+        C.says("when one more is recorded, the oldest one is dropped.");
+        C.sameBehind("eight changes, and two of them undone", Cases.RICH + "start 1 2\npass 60\nobserve 1\nundo\nundo\n",
+            Cases.RICH + "start 1 2\npass 70\nguess 9\nundo\nundo\n");
     }
 }

@@ -1,4 +1,4 @@
-/** Promise 28, save: its boundary cases. */
+/** Promise 28, save: its cases. */
 public final class Promise28Test {
     private static final Cases C = new Cases("promise 28, save");
 
@@ -6,6 +6,7 @@ public final class Promise28Test {
         slots();
         overwrites();
         whatIsSaved();
+        whatItChanges();
         C.end();
     }
 
@@ -54,5 +55,16 @@ public final class Promise28Test {
             "state 17 = 0", "compass 10 = 0");
         C.says("each method that is a change, and returns no error, records the state before it");
         C.test("it is no change", "start 1 0", "save 0 = 0", "save 1 = 0", "state 21 = 1", "undo = 0", "compass 0 = 0");
+    }
+    private static void whatItChanges() {
+        C.says("Saves everything except the pad, the history and the slots in a slot, and overwrites what was saved"
+            + " there.");
+        C.only("nothing but what the slot 0 keeps", Cases.RICH, "save 0 = 197");
+        C.only("nothing but what the slot 1 keeps", Cases.RICH, "save 1 = 197");
+        C.sameBehind("twice is as good as once", Cases.RICH + "save 0\nsave 0\n", Cases.RICH + "save 0\n");
+        String full = Cases.turned(1, 2, 3, 4, 5, 6, 7, 8) + Cases.checked(1, 2, 3, 4, 5) + "8 x leg 1 2 3\n";
+        String less = "forgetSwings\npass 2\nsteer 7 8\nleg 5 6 7\nguess 9\n";
+        C.sameBehind("what was saved there before is nothing to it", full + "save 0\n" + less + "save 0\n",
+            full + less + "save 0\n");
     }
 }

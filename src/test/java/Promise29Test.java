@@ -1,4 +1,4 @@
-/** Promise 29, restore: its boundary cases. */
+/** Promise 29, restore: its cases. */
 public final class Promise29Test {
     private static final Cases C = new Cases("promise 29, restore");
 
@@ -6,6 +6,7 @@ public final class Promise29Test {
         slots();
         keeps();
         change();
+        everything();
         C.end();
     }
 
@@ -70,5 +71,17 @@ public final class Promise29Test {
             "undo ! NOT_POSSIBLE");
         C.test("pad and slots are not restored", "put \"c\"", "save 0", "wipe", "start 5 6", "save 1", "restore 0",
             "state 20 = 0", "restore 1", "compass 0 = 5");
+    }
+    private static void everything() {
+        C.says("Restores what was saved last in a slot, which keeps it. This is a change.");
+        C.undone("undo takes it back, slot 0", Cases.ROOM, "restore 0 = 170");
+        C.undone("undo takes it back, slot 1", Cases.ROOM, "restore 1 = 190");
+        String[] later = {"set LATE 7\nset SEED 9\nset WAIT 60\nset NOISE 0", "start 1 2", "line 5\nline 6",
+            "steer 1 2", "steer 0 0\nplace 9", "4 x leg 5 6 7", "pass 600", "damp 1", "damp 3", "correct 5 6",
+            "forgetSwings", "6 x observe 0", "guess 9", "wipe\nwrite \"c1v2m3\"\nload", "undo\nundo\nundo\nundo",
+            "6 x undo", "restore 0\npass 60", "forgetSwings\npass 600\nobserve 1\nguess 5\nline 5\ncorrect 9 9"};
+        for (String changes : later) {
+            C.restored("everything is as it was: " + changes.replace('\n', ','), Cases.RICH, changes);
+        }
     }
 }
