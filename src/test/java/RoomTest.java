@@ -50,16 +50,16 @@ public final class RoomTest {
         x.pass(600);
         x.damp(1);
         x.correct(1, 2);
+        x.put(0x633176326d33L);
+        x.fault();
+        x.load();
+        x.put(0x63L);
         for (int i = 0; i < 9; i++) {
             x.line(i);
             x.leg(i, i, 30);
             x.observe(0);
         }
         x.guess(5);
-        x.put(0x6331763220L + 0x0dL);
-        x.put(0x33L);
-        x.fault();
-        x.load();
         x.wipe();
         x.calmIn(0, 500);
         x.bestLevel(0, 100);
